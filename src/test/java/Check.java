@@ -1,0 +1,74 @@
+import java.util.function.LongSupplier;
+
+/** Counts and prints the answers that are not as due. */
+final class Check {
+    private static int tests = 0;
+    private static int failedTests = 0;
+    private static int wrong = 0;
+    private static String current = "";
+
+    private Check() {
+    }
+
+    static void test(String name, Runnable body) {
+        tests++;
+        current = name;
+        int before = wrong;
+        try {
+            body.run();
+        } catch (RuntimeException e) {
+            report("threw " + e);
+        }
+        if (wrong > before) {
+            failedTests++;
+        }
+    }
+
+    static void due(String call, long got, long due) {
+        if (got != due) {
+            report(call + " answered " + got + ", due is " + due);
+        }
+    }
+
+    static void due(String call, boolean got, boolean due) {
+        if (got != due) {
+            report(call + " answered " + got + ", due is " + due);
+        }
+    }
+
+    static void due(String call, double got, double due) {
+        if (Double.compare(got, due) != 0) {
+            report(call + " answered " + got + ", due is " + due);
+        }
+    }
+
+    static void due(String call, String got, String due) {
+        if (!got.equals(due)) {
+            report(call + " answered " + got + ", due is " + due);
+        }
+    }
+
+    /** The call throws an exception of exactly this class. */
+    static void refused(String call, Class<? extends RuntimeException> due, LongSupplier body) {
+        try {
+            long got = body.getAsLong();
+            report(call + " answered " + got + ", due is " + due.getSimpleName());
+        } catch (RuntimeException e) {
+            if (e.getClass() != due) {
+                report(call + " threw " + e + ", due is " + due.getSimpleName());
+            }
+        }
+    }
+
+    static void report(String what) {
+        wrong++;
+        System.out.println(current + ": " + what);
+    }
+
+    static void end() {
+        System.out.println((tests - failedTests) + " passed, " + failedTests + " failed");
+        if (failedTests > 0) {
+            System.exit(1);
+        }
+    }
+}
