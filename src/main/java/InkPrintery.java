@@ -52,19 +52,20 @@ public final class InkPrintery {
 
     // Ink, paper and time.
 
-    public int addInk(int colour, int units) {
+    public int addInk(int colour, int units)
+            throws IllegalArgumentException, IllegalStateException {
         return modify(Command.INK, colour, units);
     }
 
-    public int addPaper(int sheets) {
+    public int addPaper(int sheets) throws IllegalArgumentException, IllegalStateException {
         return modify(Command.PAPER, sheets, 0);
     }
 
-    public int pass(int hours) {
+    public int pass(int hours) throws IllegalArgumentException {
         return modify(Command.HOURS, hours, 0);
     }
 
-    public int ink(int colour) {
+    public int ink(int colour) throws IllegalArgumentException {
         requireArgument(isColour(colour));
         return shop.wells[colour];
     }
@@ -77,32 +78,34 @@ public final class InkPrintery {
         return shop.hour;
     }
 
-    public int inkAfter(int colour, int hours) {
+    public int inkAfter(int colour, int hours) throws IllegalArgumentException {
         requireArgument(isColour(colour) && isWithin(hours, 0, MOST_HOURS_AHEAD));
         return shop.inkHourByHour(colour, hours);
     }
 
-    public int inkByHalvings(int colour, int hours) {
+    public int inkByHalvings(int colour, int hours) throws IllegalArgumentException {
         requireArgument(isColour(colour) && isWithin(hours, 0, MOST_HOURS_AHEAD));
         return shop.inkHalved(colour, hours);
     }
 
-    public int hoursUntilLess(int colour, int limit) {
+    public int hoursUntilLess(int colour, int limit) throws IllegalArgumentException {
         requireArgument(isColour(colour) && isWithin(limit, 1, MOST_INK));
         return shop.hoursToFallBelow(colour, limit);
     }
 
     // Editions.
 
-    public int addEdition(int colour, int copies) {
+    public int addEdition(int colour, int copies)
+            throws IllegalArgumentException, IllegalStateException {
         return modify(Command.EDITION, colour, copies);
     }
 
-    public int removeEdition(int edition) {
+    public int removeEdition(int edition) throws IndexOutOfBoundsException {
         return modify(Command.REMOVE, edition, 0);
     }
 
-    public int print(int edition) {
+    public int print(int edition)
+            throws IndexOutOfBoundsException, IllegalStateException, UnsupportedOperationException {
         return modify(Command.PRINT, edition, 0);
     }
 
@@ -114,27 +117,27 @@ public final class InkPrintery {
         return shop.editions;
     }
 
-    public int colourOf(int edition) {
+    public int colourOf(int edition) throws IndexOutOfBoundsException {
         requireIndex(shop.hasEdition(edition));
         return shop.colours[edition];
     }
 
-    public int runOf(int edition) {
+    public int runOf(int edition) throws IndexOutOfBoundsException {
         requireIndex(shop.hasEdition(edition));
         return shop.runs[edition];
     }
 
-    public int printedOf(int edition) {
+    public int printedOf(int edition) throws IndexOutOfBoundsException {
         requireIndex(shop.hasEdition(edition));
         return shop.printed[edition];
     }
 
-    public boolean isComplete(int edition) {
+    public boolean isComplete(int edition) throws IndexOutOfBoundsException {
         requireIndex(shop.hasEdition(edition));
         return shop.missing(edition) == 0;
     }
 
-    public int changeMinutes(int from, int to) {
+    public int changeMinutes(int from, int to) throws IllegalArgumentException {
         requireArgument(isColour(from) && isColour(to));
         return washMinutes(from, to);
     }
@@ -152,36 +155,36 @@ public final class InkPrintery {
         return bestOrder.minutesOfAllOrders(shop);
     }
 
-    public int editionAt(int position) {
+    public int editionAt(int position) throws NoSuchElementException {
         bestOrder.find(shop);
         requireElement(isWithin(position, 0, bestOrder.count - 1));
         return bestOrder.order[position];
     }
 
-    public int shareOf(int edition) {
+    public int shareOf(int edition) throws IndexOutOfBoundsException {
         requireIndex(shop.hasEdition(edition));
         shares.dealSheetBySheet(shop);
         return shares.sheets[edition];
     }
 
-    public int shareByLevel(int edition) {
+    public int shareByLevel(int edition) throws IndexOutOfBoundsException {
         requireIndex(shop.hasEdition(edition));
         shares.dealByLevel(shop);
         return shares.sheets[edition];
     }
 
-    public int editionByMissing(int rank) {
+    public int editionByMissing(int rank) throws NoSuchElementException {
         requireElement(shop.hasEdition(rank));
         return shop.editionOfRank(rank);
     }
 
     // Proofs.
 
-    public int addProof(int marks) {
+    public int addProof(int marks) throws IllegalArgumentException, IllegalStateException {
         return modify(Command.PROOF, marks, 0);
     }
 
-    public int dropProof(int proof) {
+    public int dropProof(int proof) throws IndexOutOfBoundsException {
         return modify(Command.DROP, proof, 0);
     }
 
@@ -189,12 +192,12 @@ public final class InkPrintery {
         return shop.proofs;
     }
 
-    public int marksOf(int proof) {
+    public int marksOf(int proof) throws IndexOutOfBoundsException {
         requireIndex(shop.hasProof(proof));
         return shop.marks[proof];
     }
 
-    public int hourOf(int proof) {
+    public int hourOf(int proof) throws IndexOutOfBoundsException {
         requireIndex(shop.hasProof(proof));
         return shop.proofHours[proof];
     }
@@ -233,14 +236,14 @@ public final class InkPrintery {
         return sumOf(shop.wells, COLOURS);
     }
 
-    public double meanRun() {
+    public double meanRun() throws ArithmeticException {
         if (shop.editions == 0) {
             throw new ArithmeticException("there are no editions");
         }
         return (double) sumOf(shop.runs, shop.editions) / (double) shop.editions;
     }
 
-    public float fadedShare() {
+    public float fadedShare() throws ArithmeticException {
         if (shop.poured == 0) {
             throw new ArithmeticException("no ink was poured in");
         }
@@ -249,7 +252,7 @@ public final class InkPrintery {
 
     // Lines and checks.
 
-    public int writeEdition(int edition) {
+    public int writeEdition(int edition) throws IndexOutOfBoundsException {
         requireIndex(shop.hasEdition(edition));
         line.setLength(0);
         line.append(edition);
@@ -273,7 +276,7 @@ public final class InkPrintery {
         return line.length();
     }
 
-    public char lineAt(int index) {
+    public char lineAt(int index) throws IndexOutOfBoundsException {
         requireIndex(isWithin(index, 0, line.length() - 1));
         return line.charAt(index);
     }
@@ -285,14 +288,14 @@ public final class InkPrintery {
 
     // Text, undo and snapshots.
 
-    public int type(char character) {
+    public int type(char character) throws IllegalArgumentException, IllegalStateException {
         requireArgument(isWithin(character, 32, 126));
         requireState(text.length() < MOST_CHARACTERS);
         text.add(character);
         return text.length();
     }
 
-    public int execute() {
+    public int execute() throws IllegalArgumentException, IllegalStateException {
         boolean wellFormed = text.read();
         text.empty();
         if (!wellFormed) {
@@ -310,17 +313,17 @@ public final class InkPrintery {
         return text.count;
     }
 
-    public int errorPosition() {
+    public int errorPosition() throws NoSuchElementException {
         requireElement(lastErrorPosition != NONE);
         return lastErrorPosition;
     }
 
-    public int failedCommand() {
+    public int failedCommand() throws NoSuchElementException {
         requireElement(lastFailedCommand != NONE);
         return lastFailedCommand;
     }
 
-    public int undo() {
+    public int undo() throws IllegalStateException {
         requireState(history.kept > 0);
         history.takeBackKept(shop);
         return history.kept;
@@ -332,7 +335,7 @@ public final class InkPrintery {
         return shop.editions;
     }
 
-    public int restore() {
+    public int restore() throws IllegalStateException {
         requireState(hasSnapshot);
         shop.copyFrom(snapshot);
         history.forget();
@@ -780,10 +783,20 @@ public final class InkPrintery {
         final int[] order = new int[MOST_EDITIONS];
         int count = 0;
         int minutes = 0;
+        // What the last choice of a next edition takes, to the end of the order.
+        private int minutesFromNext = 0;
 
         void find(Shop shop) {
             listOpen(shop);
-            fillRest();
+            // Larger sets come first: the rest of a set is told from sets with one more edition.
+            for (int set = (1 << count) - 1; set > 0; set--) {
+                for (int last = 0; last < count; last++) {
+                    if (contains(set, last)) {
+                        chooseNext(set, openColours[last]);
+                        rest[set * MOST_EDITIONS + last] = minutesFromNext;
+                    }
+                }
+            }
             follow(shop.press);
         }
 
@@ -798,25 +811,12 @@ public final class InkPrintery {
             }
         }
 
-        private void fillRest() {
-            // Larger sets come first: the rest of a set is told from sets with one more edition.
-            for (int set = (1 << count) - 1; set > 0; set--) {
-                for (int last = 0; last < count; last++) {
-                    if (contains(set, last)) {
-                        int colour = openColours[last];
-                        int next = nextOf(set, colour);
-                        rest[placeOf(set, last)] = next == NONE ? 0 : minutesBy(set, colour, next);
-                    }
-                }
-            }
-        }
-
         private void follow(int press) {
             int set = 0;
             int colour = press;
             minutes = 0;
             for (int position = 0; position < count; position++) {
-                int next = nextOf(set, colour);
+                int next = chooseNext(set, colour);
                 if (next == NONE) {
                     return;
                 }
@@ -828,28 +828,24 @@ public final class InkPrintery {
         }
 
         /** The lowest of the editions that are best to print after a set, or NONE at the end. */
-        private int nextOf(int set, int colour) {
+        private int chooseNext(int set, int colour) {
             int best = NONE;
-            int fewest = TOO_MANY_MINUTES;
+            minutesFromNext = 0;
             for (int next = 0; next < count; next++) {
-                if (!contains(set, next) && minutesBy(set, colour, next) < fewest) {
-                    fewest = minutesBy(set, colour, next);
-                    best = next;
+                if (!contains(set, next)) {
+                    int after = rest[(set | 1 << next) * MOST_EDITIONS + next];
+                    int all = washMinutes(colour, openColours[next]) + after;
+                    if (best == NONE || all < minutesFromNext) {
+                        best = next;
+                        minutesFromNext = all;
+                    }
                 }
             }
             return best;
         }
 
-        private int minutesBy(int set, int colour, int next) {
-            return washMinutes(colour, openColours[next]) + rest[placeOf(set | 1 << next, next)];
-        }
-
         private static boolean contains(int set, int member) {
             return (set & 1 << member) != 0;
-        }
-
-        private static int placeOf(int set, int last) {
-            return set * MOST_EDITIONS + last;
         }
 
         int minutesOfAllOrders(Shop shop) {
@@ -1024,13 +1020,12 @@ public final class InkPrintery {
         /** Reads the text into the commands; answers whether it is well formed. */
         boolean read() {
             position = 0;
-            count = 0;
-            while (count < MOST_COMMANDS) {
-                if (!readCommand()) {
+            for (int index = 0; index < MOST_COMMANDS; index++) {
+                if (!readCommand(index)) {
                     return false;
                 }
-                count++;
                 if (position == buffer.length()) {
+                    count = index + 1;
                     return true;
                 }
                 if (!skip(';')) {
@@ -1040,7 +1035,7 @@ public final class InkPrintery {
             return false;
         }
 
-        private boolean readCommand() {
+        private boolean readCommand(int index) {
             Command command = readWord();
             if (command == null) {
                 return false;
@@ -1053,9 +1048,9 @@ public final class InkPrintery {
             if (second == NONE) {
                 return false;
             }
-            commands[count] = command;
-            firsts[count] = first;
-            seconds[count] = second;
+            commands[index] = command;
+            firsts[index] = first;
+            seconds[index] = second;
             return true;
         }
 
