@@ -1105,6 +1105,7 @@ public final class PromisesTest {
         malformed(x, "remove 10", 8);
         malformed(x, "remove -1", 7);
         malformed(x, "print 1 1", 7);
+        malformed(x, "print 10", 7);
         malformed(x, "hours 123", 8);
         malformed(x, "proof 100", 8);
         malformed(x, "drop 123", 7);
@@ -1183,6 +1184,8 @@ public final class PromisesTest {
     private static void undone(String name, Modification modification) {
         InkPrintery x = Fixtures.busy();
         x.addProof(3);
+        x.pass(1);
+        x.addProof(8);
         String before = Fixtures.state(x);
         modification.of(x);
         Check.due("nothing changed by " + name, Fixtures.state(x).equals(before), false);
@@ -1250,11 +1253,13 @@ public final class PromisesTest {
 
     private static void restore() {
         InkPrintery x = Fixtures.busy();
+        x.addProof(50);
         refusedOf(x, "restore()", STATE, x::restore);
         x.save();
         String saved = Fixtures.state(x);
         for (int time = 0; time < 3; time++) {
             x.addProof(time);
+            x.dropProof(0);
             x.printAll();
             x.pass(time + 1);
             x.removeEdition(1);
