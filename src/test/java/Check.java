@@ -1,7 +1,16 @@
+import java.util.NoSuchElementException;
 import java.util.function.LongSupplier;
 
 /** Counts and prints the answers that are not as due. */
 final class Check {
+    static final Class<IllegalArgumentException> ARGUMENT = IllegalArgumentException.class;
+    static final Class<IllegalStateException> STATE = IllegalStateException.class;
+    static final Class<IndexOutOfBoundsException> INDEX = IndexOutOfBoundsException.class;
+    static final Class<NoSuchElementException> ELEMENT = NoSuchElementException.class;
+    static final Class<ArithmeticException> ARITHMETIC = ArithmeticException.class;
+    static final Class<UnsupportedOperationException> UNSUPPORTED =
+            UnsupportedOperationException.class;
+
     private static int tests = 0;
     private static int failedTests = 0;
     private static int wrong = 0;
@@ -45,6 +54,15 @@ final class Check {
     static void due(String call, String got, String due) {
         if (!got.equals(due)) {
             report(call + " answered " + got + ", due is " + due);
+        }
+    }
+
+    /** The call throws nothing. */
+    static void allowed(String call, LongSupplier body) {
+        try {
+            body.getAsLong();
+        } catch (RuntimeException e) {
+            report(call + " threw " + e);
         }
     }
 

@@ -1,3 +1,6 @@
+import java.util.function.Consumer;
+import java.util.function.Supplier;
+
 /** Runs of calls that several tests share. */
 final class Fixtures {
     static final int COLOURS = 10;
@@ -23,6 +26,76 @@ final class Fixtures {
         x.addEdition(2, 3);
         x.addEdition(0, 15);
         return x;
+    }
+
+    /**
+     * Something of everything: editions that are complete, begun and new, proofs of two hours, more
+     * modifications than can be undone, a snapshot, a line, an error position, a failed command.
+     */
+    static InkPrintery lived() {
+        InkPrintery x = fresh();
+        x.addInk(0, 200);
+        x.addInk(2, 300);
+        x.addInk(5, 77);
+        x.addInk(9, 4);
+        x.addPaper(60);
+        x.addEdition(5, 20);
+        x.addEdition(2, 10);
+        x.addEdition(9, 30);
+        x.print(1);
+        x.save();
+        x.addProof(40);
+        x.pass(3);
+        x.addProof(60);
+        x.addProof(50);
+        x.addEdition(0, 15);
+        x.printAll();
+        Check.refused("execute() of nothing", Check.ARGUMENT, () -> execute(x, "nothing"));
+        Check.refused("execute() of all;print 9", Check.STATE, () -> execute(x, "all;print 9"));
+        x.writeEdition(2);
+        return x;
+    }
+
+    /** Makes such an object again and again, always with some more calls and a text begun. */
+    static Supplier<InkPrintery> lived(Consumer<InkPrintery> more) {
+        return () -> {
+            InkPrintery x = lived();
+            more.accept(x);
+            type(x, "al");
+            return x;
+        };
+    }
+
+    /** Makes such an object as it is, with a text begun. */
+    static Supplier<InkPrintery> typing() {
+        return lived(x -> { });
+    }
+
+    /** Makes a new object with some calls, again and again. */
+    static Supplier<InkPrintery> made(Consumer<InkPrintery> calls) {
+        return () -> {
+            InkPrintery x = fresh();
+            calls.accept(x);
+            return x;
+        };
+    }
+
+    static void addEditions(InkPrintery x, int upTo) {
+        while (x.editionCount() < upTo) {
+            x.addEdition(4, 5);
+        }
+    }
+
+    static void addProofs(InkPrintery x, int upTo) {
+        while (x.proofCount() < upTo) {
+            x.addProof(20);
+        }
+    }
+
+    static void addPaper(InkPrintery x, int upTo) {
+        while (x.paper() < upTo) {
+            x.addPaper(Math.min(999, upTo - x.paper()));
+        }
     }
 
     static InkPrintery withProofs(int... marks) {

@@ -3,12 +3,6 @@ import java.util.function.LongSupplier;
 
 /** At least one test for each promise of the document: ordinary inputs, edges and wrong inputs. */
 public final class PromisesTest {
-    private static final Class<IllegalArgumentException> ARGUMENT = IllegalArgumentException.class;
-    private static final Class<IllegalStateException> STATE = IllegalStateException.class;
-    private static final Class<IndexOutOfBoundsException> INDEX = IndexOutOfBoundsException.class;
-    private static final Class<NoSuchElementException> ELEMENT = NoSuchElementException.class;
-    private static final Class<UnsupportedOperationException> UNSUPPORTED =
-            UnsupportedOperationException.class;
     private static final int LOWEST = Integer.MIN_VALUE;
     private static final int HIGHEST = Integer.MAX_VALUE;
 
@@ -114,9 +108,9 @@ public final class PromisesTest {
                 "0 0 0 0 0 0 0 0 0 0 paper 0 hour 0 press 0 minutes 0 poured 0 used 0 faded 0");
         Check.due("editionCount()", x.editionCount(), 0);
         Check.due("proofCount()", x.proofCount(), 0);
-        Check.refused("undo()", STATE, x::undo);
-        Check.refused("restore()", STATE, x::restore);
-        Check.refused("lineAt(0)", INDEX, () -> x.lineAt(0));
+        Check.refused("undo()", Check.STATE, x::undo);
+        Check.refused("restore()", Check.STATE, x::restore);
+        Check.refused("lineAt(0)", Check.INDEX, () -> x.lineAt(0));
         Check.due("type('a')", x.type('a'), 1);
     }
 
@@ -132,18 +126,18 @@ public final class PromisesTest {
         InkPrintery x = Fixtures.fresh();
         Check.due("addInk(3, 1)", x.addInk(3, 1), 1);
         Check.due("addInk(3, 997)", x.addInk(3, 997), 998);
-        refusedOf(x, "addInk(3, 2)", STATE, () -> x.addInk(3, 2));
+        refusedOf(x, "addInk(3, 2)", Check.STATE, () -> x.addInk(3, 2));
         Check.due("addInk(3, 1) again", x.addInk(3, 1), 999);
         Check.due("addInk(0, 999)", x.addInk(0, 999), 999);
         Check.due("addInk(9, 5)", x.addInk(9, 5), 5);
         Check.due("ink(9)", x.ink(9), 5);
         Check.due("poured()", x.poured(), 999 + 999 + 5);
         for (int colour : new int[] {-1, 10, LOWEST, HIGHEST}) {
-            refusedOf(x, "addInk(" + colour + ", 1)", ARGUMENT, () -> x.addInk(colour, 1));
+            refusedOf(x, "addInk(" + colour + ", 1)", Check.ARGUMENT, () -> x.addInk(colour, 1));
         }
         for (int units : new int[] {0, 1000, -1, LOWEST, HIGHEST}) {
             // The well is full: the exception that is documented first is thrown.
-            refusedOf(x, "addInk(0, " + units + ")", ARGUMENT, () -> x.addInk(0, units));
+            refusedOf(x, "addInk(0, " + units + ")", Check.ARGUMENT, () -> x.addInk(0, units));
         }
     }
 
@@ -153,11 +147,11 @@ public final class PromisesTest {
         for (int bought = 0; bought < 10; bought++) {
             Check.due("addPaper(999)", x.addPaper(999), 1 + 999 * (bought + 1));
         }
-        refusedOf(x, "addPaper(9)", STATE, () -> x.addPaper(9));
+        refusedOf(x, "addPaper(9)", Check.STATE, () -> x.addPaper(9));
         Check.due("addPaper(8)", x.addPaper(8), 9999);
-        refusedOf(x, "addPaper(1)", STATE, () -> x.addPaper(1));
+        refusedOf(x, "addPaper(1)", Check.STATE, () -> x.addPaper(1));
         for (int sheets : new int[] {0, 1000, -1, LOWEST, HIGHEST}) {
-            refusedOf(x, "addPaper(" + sheets + ")", ARGUMENT, () -> x.addPaper(sheets));
+            refusedOf(x, "addPaper(" + sheets + ")", Check.ARGUMENT, () -> x.addPaper(sheets));
         }
     }
 
@@ -181,7 +175,7 @@ public final class PromisesTest {
         Check.due("pass(48)", x.pass(48), x.poured() - x.inkInWells() - 695);
         Check.due("hour()", x.hour(), 58);
         for (int hours : new int[] {0, 49, -1, LOWEST, HIGHEST}) {
-            refusedOf(x, "pass(" + hours + ")", ARGUMENT, () -> x.pass(hours));
+            refusedOf(x, "pass(" + hours + ")", Check.ARGUMENT, () -> x.pass(hours));
         }
     }
 
@@ -192,7 +186,7 @@ public final class PromisesTest {
             Check.due("ink(" + colour + ")", x.ink(colour), due[colour]);
         }
         for (int colour : new int[] {-1, 10, LOWEST, HIGHEST}) {
-            refusedOf(x, "ink(" + colour + ")", ARGUMENT, () -> x.ink(colour));
+            refusedOf(x, "ink(" + colour + ")", Check.ARGUMENT, () -> x.ink(colour));
         }
     }
 
@@ -251,10 +245,10 @@ public final class PromisesTest {
         Check.due(name + "(9, 11) in hour 9", left.of(x, 9, 11), 249);
         Check.due(name + "(1, 1) in hour 9", left.of(x, 1, 1), 281);
         for (int wrong : new int[] {-1, 10, LOWEST, HIGHEST}) {
-            refusedOf(x, name + "(" + wrong + ", 1)", ARGUMENT, () -> left.of(x, wrong, 1));
+            refusedOf(x, name + "(" + wrong + ", 1)", Check.ARGUMENT, () -> left.of(x, wrong, 1));
         }
         for (int wrong : new int[] {-1, 100, LOWEST, HIGHEST}) {
-            refusedOf(x, name + "(1, " + wrong + ")", ARGUMENT, () -> left.of(x, 1, wrong));
+            refusedOf(x, name + "(1, " + wrong + ")", Check.ARGUMENT, () -> left.of(x, 1, wrong));
         }
     }
 
@@ -274,11 +268,11 @@ public final class PromisesTest {
         Check.due("hoursUntilLess(4, 600) in hour 3", x.hoursUntilLess(4, 600), 2);
         Check.due("hoursUntilLess(9, 2) in hour 3", x.hoursUntilLess(9, 2), 87);
         for (int wrong : new int[] {-1, 10, LOWEST, HIGHEST}) {
-            refusedOf(x, "hoursUntilLess(" + wrong + ", 1)", ARGUMENT,
+            refusedOf(x, "hoursUntilLess(" + wrong + ", 1)", Check.ARGUMENT,
                     () -> x.hoursUntilLess(wrong, 1));
         }
         for (int wrong : new int[] {0, 1000, -1, LOWEST, HIGHEST}) {
-            refusedOf(x, "hoursUntilLess(1, " + wrong + ")", ARGUMENT,
+            refusedOf(x, "hoursUntilLess(1, " + wrong + ")", Check.ARGUMENT,
                     () -> x.hoursUntilLess(1, wrong));
         }
     }
@@ -291,12 +285,12 @@ public final class PromisesTest {
             Check.due("addEdition(4, 2)", x.addEdition(4, 2), edition);
         }
         Check.due("writeEdition(1)", Fixtures.line(x, x.writeEdition(1)), "1c9:0/50");
-        refusedOf(x, "addEdition(4, 2) as the eighth", STATE, () -> x.addEdition(4, 2));
+        refusedOf(x, "addEdition(4, 2) as the eighth", Check.STATE, () -> x.addEdition(4, 2));
         for (int wrong : new int[] {-1, 10, LOWEST, HIGHEST}) {
-            refusedOf(x, "addEdition(" + wrong + ", 1)", ARGUMENT, () -> x.addEdition(wrong, 1));
+            refusedOf(x, "addEdition(" + wrong + ", 1)", Check.ARGUMENT, () -> x.addEdition(wrong, 1));
         }
         for (int wrong : new int[] {0, 51, -1, LOWEST, HIGHEST}) {
-            refusedOf(x, "addEdition(1, " + wrong + ")", ARGUMENT, () -> x.addEdition(1, wrong));
+            refusedOf(x, "addEdition(1, " + wrong + ")", Check.ARGUMENT, () -> x.addEdition(1, wrong));
         }
     }
 
@@ -304,7 +298,7 @@ public final class PromisesTest {
         InkPrintery x = Fixtures.busy();
         x.print(3);
         for (int wrong : new int[] {-1, 5, LOWEST, HIGHEST}) {
-            refusedOf(x, "removeEdition(" + wrong + ")", INDEX, () -> x.removeEdition(wrong));
+            refusedOf(x, "removeEdition(" + wrong + ")", Check.INDEX, () -> x.removeEdition(wrong));
         }
         Check.due("removeEdition(1)", x.removeEdition(1), 4);
         Check.due("edition 0", Fixtures.line(x, x.writeEdition(0)), "0c5:0/20");
@@ -312,14 +306,14 @@ public final class PromisesTest {
         Check.due("edition 2", Fixtures.line(x, x.writeEdition(2)), "2c2:3/3");
         Check.due("edition 3", Fixtures.line(x, x.writeEdition(3)), "3c0:0/15");
         Check.due("removeEdition(3)", x.removeEdition(3), 3);
-        refusedOf(x, "removeEdition(3) again", INDEX, () -> x.removeEdition(3));
+        refusedOf(x, "removeEdition(3) again", Check.INDEX, () -> x.removeEdition(3));
         Check.due("used() is kept", x.used(), 3);
         Check.due("addEdition(7, 7)", x.addEdition(7, 7), 3);
         Check.due("edition 3", Fixtures.line(x, x.writeEdition(3)), "3c7:0/7");
         for (int left = 3; left >= 0; left--) {
             Check.due("removeEdition(0)", x.removeEdition(0), left);
         }
-        refusedOf(x, "removeEdition(0) without editions", INDEX, () -> x.removeEdition(0));
+        refusedOf(x, "removeEdition(0) without editions", Check.INDEX, () -> x.removeEdition(0));
     }
 
     private static void print() {
@@ -350,16 +344,16 @@ public final class PromisesTest {
         x.addEdition(3, 2);
         x.addEdition(4, 5);
         for (int wrong : new int[] {-1, 2, LOWEST, HIGHEST}) {
-            refusedOf(x, "print(" + wrong + ")", INDEX, () -> x.print(wrong));
+            refusedOf(x, "print(" + wrong + ")", Check.INDEX, () -> x.print(wrong));
         }
-        refusedOf(x, "print(0) without paper and ink", UNSUPPORTED, () -> x.print(0));
+        refusedOf(x, "print(0) without paper and ink", Check.UNSUPPORTED, () -> x.print(0));
         x.addInk(3, 2);
-        refusedOf(x, "print(0) without paper", UNSUPPORTED, () -> x.print(0));
+        refusedOf(x, "print(0) without paper", Check.UNSUPPORTED, () -> x.print(0));
         x.addPaper(2);
-        refusedOf(x, "print(1) without ink", UNSUPPORTED, () -> x.print(1));
+        refusedOf(x, "print(1) without ink", Check.UNSUPPORTED, () -> x.print(1));
         Check.due("print(0)", x.print(0), 2);
         // Neither paper nor ink is left, but that it is complete is documented first.
-        refusedOf(x, "print(0) complete", STATE, () -> x.print(0));
+        refusedOf(x, "print(0) complete", Check.STATE, () -> x.print(0));
     }
 
     private static void printAll() {
@@ -434,7 +428,7 @@ public final class PromisesTest {
             Check.due("colourOf(" + edition + ")", x.colourOf(edition), due[edition]);
         }
         for (int wrong : new int[] {-1, 5, 7, LOWEST, HIGHEST}) {
-            refusedOf(x, "colourOf(" + wrong + ")", INDEX, () -> x.colourOf(wrong));
+            refusedOf(x, "colourOf(" + wrong + ")", Check.INDEX, () -> x.colourOf(wrong));
         }
     }
 
@@ -446,7 +440,7 @@ public final class PromisesTest {
             Check.due("runOf(" + edition + ")", x.runOf(edition), due[edition]);
         }
         for (int wrong : new int[] {-1, 5, 7, LOWEST, HIGHEST}) {
-            refusedOf(x, "runOf(" + wrong + ")", INDEX, () -> x.runOf(wrong));
+            refusedOf(x, "runOf(" + wrong + ")", Check.INDEX, () -> x.runOf(wrong));
         }
     }
 
@@ -459,7 +453,7 @@ public final class PromisesTest {
             Check.due("printedOf(" + edition + ")", x.printedOf(edition), due[edition]);
         }
         for (int wrong : new int[] {-1, 5, 7, LOWEST, HIGHEST}) {
-            refusedOf(x, "printedOf(" + wrong + ")", INDEX, () -> x.printedOf(wrong));
+            refusedOf(x, "printedOf(" + wrong + ")", Check.INDEX, () -> x.printedOf(wrong));
         }
     }
 
@@ -472,7 +466,7 @@ public final class PromisesTest {
             Check.due("isComplete(" + edition + ")", x.isComplete(edition), due[edition]);
         }
         for (int wrong : new int[] {-1, 5, 7, LOWEST, HIGHEST}) {
-            refusedOf(x, "isComplete(" + wrong + ")", INDEX, () -> x.isComplete(wrong) ? 1 : 0);
+            refusedOf(x, "isComplete(" + wrong + ")", Check.INDEX, () -> x.isComplete(wrong) ? 1 : 0);
         }
     }
 
@@ -488,9 +482,9 @@ public final class PromisesTest {
             }
         }
         for (int wrong : new int[] {-1, 10, LOWEST, HIGHEST}) {
-            refusedOf(x, "changeMinutes(" + wrong + ", 0)", ARGUMENT,
+            refusedOf(x, "changeMinutes(" + wrong + ", 0)", Check.ARGUMENT,
                     () -> x.changeMinutes(wrong, 0));
-            refusedOf(x, "changeMinutes(0, " + wrong + ")", ARGUMENT,
+            refusedOf(x, "changeMinutes(0, " + wrong + ")", Check.ARGUMENT,
                     () -> x.changeMinutes(0, wrong));
         }
     }
@@ -560,10 +554,10 @@ public final class PromisesTest {
         x.print(1);
         Check.due("order from colour 2", order(x), "3402");
         for (int wrong : new int[] {-1, 4, 7, LOWEST, HIGHEST}) {
-            refusedOf(x, "editionAt(" + wrong + ")", ELEMENT, () -> x.editionAt(wrong));
+            refusedOf(x, "editionAt(" + wrong + ")", Check.ELEMENT, () -> x.editionAt(wrong));
         }
         InkPrintery y = Fixtures.fresh();
-        refusedOf(y, "editionAt(0) without editions", ELEMENT, () -> y.editionAt(0));
+        refusedOf(y, "editionAt(0) without editions", Check.ELEMENT, () -> y.editionAt(0));
         y.addEdition(2, 1);
         y.addEdition(1, 1);
         y.addEdition(2, 1);
@@ -653,7 +647,7 @@ public final class PromisesTest {
         x.print(2);
         sharesDue(name, share, x, 20, 10, 26, 0, 15);
         for (int wrong : new int[] {-1, 5, 7, LOWEST, HIGHEST}) {
-            refusedOf(x, name + "(" + wrong + ")", INDEX, () -> share.of(x, wrong));
+            refusedOf(x, name + "(" + wrong + ")", Check.INDEX, () -> share.of(x, wrong));
         }
         InkPrintery y = Fixtures.fresh();
         for (int edition = 0; edition < 7; edition++) {
@@ -679,7 +673,7 @@ public final class PromisesTest {
 
     private static void editionByMissing() {
         InkPrintery x = Fixtures.busy();
-        Check.refused("editionByMissing(5)", ELEMENT, () -> x.editionByMissing(5));
+        Check.refused("editionByMissing(5)", Check.ELEMENT, () -> x.editionByMissing(5));
         ranksDue(x, 2, 0, 4, 1, 3);
         x.print(0);
         x.print(1);
@@ -688,11 +682,11 @@ public final class PromisesTest {
         x.addEdition(7, 15);
         ranksDue(x, 2, 4, 5, 3, 0, 1);
         for (int wrong : new int[] {-1, 6, 7, LOWEST, HIGHEST}) {
-            refusedOf(x, "editionByMissing(" + wrong + ")", ELEMENT,
+            refusedOf(x, "editionByMissing(" + wrong + ")", Check.ELEMENT,
                     () -> x.editionByMissing(wrong));
         }
         InkPrintery y = Fixtures.fresh();
-        refusedOf(y, "editionByMissing(0)", ELEMENT, () -> y.editionByMissing(0));
+        refusedOf(y, "editionByMissing(0)", Check.ELEMENT, () -> y.editionByMissing(0));
     }
 
     private static void ranksDue(InkPrintery x, int... due) {
@@ -708,9 +702,9 @@ public final class PromisesTest {
         for (int proof = 2; proof < 12; proof++) {
             Check.due("addProof(5)", x.addProof(5), proof);
         }
-        refusedOf(x, "addProof(5) as the 13th", STATE, () -> x.addProof(5));
+        refusedOf(x, "addProof(5) as the 13th", Check.STATE, () -> x.addProof(5));
         for (int wrong : new int[] {-1, 100, LOWEST, HIGHEST}) {
-            refusedOf(x, "addProof(" + wrong + ")", ARGUMENT, () -> x.addProof(wrong));
+            refusedOf(x, "addProof(" + wrong + ")", Check.ARGUMENT, () -> x.addProof(wrong));
         }
     }
 
@@ -722,16 +716,16 @@ public final class PromisesTest {
         x.pass(1);
         x.addProof(30);
         for (int wrong : new int[] {-1, 3, 12, LOWEST, HIGHEST}) {
-            refusedOf(x, "dropProof(" + wrong + ")", INDEX, () -> x.dropProof(wrong));
+            refusedOf(x, "dropProof(" + wrong + ")", Check.INDEX, () -> x.dropProof(wrong));
         }
         Check.due("dropProof(1)", x.dropProof(1), 2);
         Check.due("marksOf(0)", x.marksOf(0), 10);
         Check.due("marksOf(1)", x.marksOf(1), 30);
         Check.due("hourOf(1)", x.hourOf(1), 2);
-        refusedOf(x, "dropProof(2)", INDEX, () -> x.dropProof(2));
+        refusedOf(x, "dropProof(2)", Check.INDEX, () -> x.dropProof(2));
         Check.due("dropProof(0)", x.dropProof(0), 1);
         Check.due("dropProof(0)", x.dropProof(0), 0);
-        refusedOf(x, "dropProof(0)", INDEX, () -> x.dropProof(0));
+        refusedOf(x, "dropProof(0)", Check.INDEX, () -> x.dropProof(0));
     }
 
     private static void proofCount() {
@@ -751,7 +745,7 @@ public final class PromisesTest {
         Check.due("marksOf(1)", x.marksOf(1), 99);
         Check.due("marksOf(2)", x.marksOf(2), 0);
         for (int wrong : new int[] {-1, 3, 12, LOWEST, HIGHEST}) {
-            refusedOf(x, "marksOf(" + wrong + ")", INDEX, () -> x.marksOf(wrong));
+            refusedOf(x, "marksOf(" + wrong + ")", Check.INDEX, () -> x.marksOf(wrong));
         }
     }
 
@@ -766,7 +760,7 @@ public final class PromisesTest {
         Check.due("hourOf(1)", x.hourOf(1), 48);
         Check.due("hourOf(2)", x.hourOf(2), 50);
         for (int wrong : new int[] {-1, 3, 12, LOWEST, HIGHEST}) {
-            refusedOf(x, "hourOf(" + wrong + ")", INDEX, () -> x.hourOf(wrong));
+            refusedOf(x, "hourOf(" + wrong + ")", Check.INDEX, () -> x.hourOf(wrong));
         }
     }
 
@@ -910,12 +904,12 @@ public final class PromisesTest {
         Check.due("writeEdition(4)", x.writeEdition(4), 9);
         Check.due("line", Fixtures.line(x, 9), "4c0:15/15");
         for (int wrong : new int[] {-1, 5, 7, LOWEST, HIGHEST}) {
-            refusedOf(x, "writeEdition(" + wrong + ")", INDEX, () -> x.writeEdition(wrong));
+            refusedOf(x, "writeEdition(" + wrong + ")", Check.INDEX, () -> x.writeEdition(wrong));
         }
         Check.due("line", Fixtures.line(x, 9), "4c0:15/15");
         Check.due("writeEdition(3)", x.writeEdition(3), 7);
         Check.due("line", Fixtures.line(x, 7), "3c2:0/3");
-        Check.refused("lineAt(7)", INDEX, () -> x.lineAt(7));
+        Check.refused("lineAt(7)", Check.INDEX, () -> x.lineAt(7));
     }
 
     private static void writeWells() {
@@ -929,7 +923,7 @@ public final class PromisesTest {
         Check.due("line", Fixtures.line(x, 39), "990 991 992 993 994 995 996 997 998 999");
         x.addEdition(1, 1);
         x.writeEdition(0);
-        Check.refused("lineAt(7)", INDEX, () -> x.lineAt(7));
+        Check.refused("lineAt(7)", Check.INDEX, () -> x.lineAt(7));
         x.pass(9);
         Check.due("writeWells()", x.writeWells(), 36);
         Check.due("line", Fixtures.line(x, 36), "1 61 124 248 497 497 498 498 499 999");
@@ -938,7 +932,7 @@ public final class PromisesTest {
     private static void lineAt() {
         InkPrintery x = Fixtures.fresh();
         for (int wrong : new int[] {-1, 0, LOWEST, HIGHEST}) {
-            Check.refused("lineAt(" + wrong + ")", INDEX, () -> x.lineAt(wrong));
+            Check.refused("lineAt(" + wrong + ")", Check.INDEX, () -> x.lineAt(wrong));
         }
         x.addEdition(7, 30);
         x.writeEdition(0);
@@ -947,7 +941,7 @@ public final class PromisesTest {
         Check.due("lineAt(6)", x.lineAt(6), '3');
         Check.due("lineAt(7)", x.lineAt(7), '0');
         for (int wrong : new int[] {-1, 8, LOWEST, HIGHEST}) {
-            Check.refused("lineAt(" + wrong + ")", INDEX, () -> x.lineAt(wrong));
+            Check.refused("lineAt(" + wrong + ")", Check.INDEX, () -> x.lineAt(wrong));
         }
         // The line is no part of the state that is undone or restored.
         x.save();
@@ -983,16 +977,16 @@ public final class PromisesTest {
         Check.due("type(' ')", x.type(' '), 1);
         Check.due("type('~')", x.type('~'), 2);
         for (int sign : new int[] {0, 9, 10, 31, 127, 128, 255, 256, 65535}) {
-            Check.refused("type(" + sign + ")", ARGUMENT, () -> x.type((char) sign));
+            Check.refused("type(" + sign + ")", Check.ARGUMENT, () -> x.type((char) sign));
         }
         for (int length = 3; length <= 60; length++) {
             Check.due("type('a')", x.type('a'), length);
         }
-        Check.refused("type('a') as the 61st", STATE, () -> x.type('a'));
-        Check.refused("type(31) as the 61st", ARGUMENT, () -> x.type((char) 31));
-        Check.refused("execute()", ARGUMENT, x::execute);
+        Check.refused("type('a') as the 61st", Check.STATE, () -> x.type('a'));
+        Check.refused("type(31) as the 61st", Check.ARGUMENT, () -> x.type((char) 31));
+        Check.refused("execute()", Check.ARGUMENT, x::execute);
         Check.due("type('a')", x.type('a'), 1);
-        Check.refused("undo()", STATE, x::undo);
+        Check.refused("undo()", Check.STATE, x::undo);
     }
 
     private static void execute() {
@@ -1001,8 +995,8 @@ public final class PromisesTest {
         Check.due("state", Fixtures.state(x), "20 0 0 0 0 0 0 0 0 0 paper 0 hour 1 press 0"
                 + " minutes 9 poured 50 used 9 faded 21 e0:9/10");
         Check.due("type('a')", x.type('a'), 1);
-        Check.refused("execute()", ARGUMENT, x::execute);
-        Check.refused("execute() of an empty text", ARGUMENT, x::execute);
+        Check.refused("execute()", Check.ARGUMENT, x::execute);
+        Check.refused("execute() of an empty text", Check.ARGUMENT, x::execute);
         String most = "all;all;all;all;all;all;all;all;all;all;all;all;all;all;all";
         Check.due("execute() of 15 commands", Fixtures.execute(x, most), 15);
         Check.due("undo()", x.undo(), 1);
@@ -1056,17 +1050,17 @@ public final class PromisesTest {
 
     private static void refusedText(InkPrintery x, String text, int failed) {
         Fixtures.type(x, text);
-        refusedOf(x, "execute() of " + text, STATE, x::execute);
+        refusedOf(x, "execute() of " + text, Check.STATE, x::execute);
         Check.due("failedCommand() of " + text, x.failedCommand(), failed);
         Check.due("type(' ') after " + text, x.type(' '), 1);
-        Check.refused("execute() of a blank", ARGUMENT, x::execute);
+        Check.refused("execute() of a blank", Check.ARGUMENT, x::execute);
     }
 
     private static void errorPosition() {
         InkPrintery x = Fixtures.fresh();
-        Check.refused("errorPosition()", ELEMENT, x::errorPosition);
+        Check.refused("errorPosition()", Check.ELEMENT, x::errorPosition);
         Fixtures.execute(x, "all");
-        Check.refused("errorPosition()", ELEMENT, x::errorPosition);
+        Check.refused("errorPosition()", Check.ELEMENT, x::errorPosition);
         malformed(x, "", 0);
         malformed(x, "x", 0);
         malformed(x, ";", 0);
@@ -1115,7 +1109,7 @@ public final class PromisesTest {
         malformed(x, "all;all;all;all;all;all;all;all;all;all;all;all;all;all;all;", 60);
         // A malformed text that would fail too is malformed.
         malformed(x, "print 0;x", 8);
-        Check.refused("failedCommand()", ELEMENT, x::failedCommand);
+        Check.refused("failedCommand()", Check.ELEMENT, x::failedCommand);
         Fixtures.execute(x, "all");
         Check.due("errorPosition() after a good text", x.errorPosition(), 8);
         x.save();
@@ -1126,16 +1120,16 @@ public final class PromisesTest {
 
     private static void malformed(InkPrintery x, String text, int position) {
         Fixtures.type(x, text);
-        refusedOf(x, "execute() of " + text, ARGUMENT, x::execute);
+        refusedOf(x, "execute() of " + text, Check.ARGUMENT, x::execute);
         Check.due("errorPosition() of " + text, x.errorPosition(), position);
     }
 
     private static void failedCommand() {
         InkPrintery x = Fixtures.fresh();
-        Check.refused("failedCommand()", ELEMENT, x::failedCommand);
+        Check.refused("failedCommand()", Check.ELEMENT, x::failedCommand);
         Fixtures.type(x, "bad");
-        Check.refused("execute()", ARGUMENT, x::execute);
-        Check.refused("failedCommand()", ELEMENT, x::failedCommand);
+        Check.refused("execute()", Check.ARGUMENT, x::execute);
+        Check.refused("failedCommand()", Check.ELEMENT, x::failedCommand);
         refusedText(x, "all;all;print 0;drop 0", 2);
         Fixtures.execute(x, "all");
         Check.due("failedCommand() after a good text", x.failedCommand(), 2);
@@ -1148,7 +1142,7 @@ public final class PromisesTest {
 
     private static void undo() {
         InkPrintery x = Fixtures.fresh();
-        Check.refused("undo()", STATE, x::undo);
+        Check.refused("undo()", Check.STATE, x::undo);
         x.addPaper(5);
         x.addPaper(6);
         Fixtures.type(x, "all");
@@ -1158,7 +1152,7 @@ public final class PromisesTest {
         Check.due("type(';')", x.type(';'), 4);
         Check.due("undo()", x.undo(), 0);
         Check.due("paper()", x.paper(), 0);
-        Check.refused("undo()", STATE, x::undo);
+        Check.refused("undo()", Check.STATE, x::undo);
         x.addPaper(7);
         Check.due("undo()", x.undo(), 0);
         Check.due("paper()", x.paper(), 0);
@@ -1205,7 +1199,7 @@ public final class PromisesTest {
             Check.due("undo()", x.undo(), left);
             Check.due("paper()", x.paper(), 22 + left);
         }
-        Check.refused("undo() of the ninth", STATE, x::undo);
+        Check.refused("undo() of the ninth", Check.STATE, x::undo);
         Check.due("paper()", x.paper(), 22);
     }
 
@@ -1214,17 +1208,17 @@ public final class PromisesTest {
         for (int sheets = 0; sheets < 9; sheets++) {
             x.addPaper(100);
         }
-        Check.refused("addInk(10, 1)", ARGUMENT, () -> x.addInk(10, 1));
-        Check.refused("addPaper(0)", ARGUMENT, () -> x.addPaper(0));
-        Check.refused("addEdition(0, 0)", ARGUMENT, () -> x.addEdition(0, 0));
-        Check.refused("removeEdition(0)", INDEX, () -> x.removeEdition(0));
-        Check.refused("print(0)", INDEX, () -> x.print(0));
-        Check.refused("pass(0)", ARGUMENT, () -> x.pass(0));
-        Check.refused("addProof(100)", ARGUMENT, () -> x.addProof(100));
-        Check.refused("dropProof(0)", INDEX, () -> x.dropProof(0));
-        Check.refused("execute()", ARGUMENT, x::execute);
+        Check.refused("addInk(10, 1)", Check.ARGUMENT, () -> x.addInk(10, 1));
+        Check.refused("addPaper(0)", Check.ARGUMENT, () -> x.addPaper(0));
+        Check.refused("addEdition(0, 0)", Check.ARGUMENT, () -> x.addEdition(0, 0));
+        Check.refused("removeEdition(0)", Check.INDEX, () -> x.removeEdition(0));
+        Check.refused("print(0)", Check.INDEX, () -> x.print(0));
+        Check.refused("pass(0)", Check.ARGUMENT, () -> x.pass(0));
+        Check.refused("addProof(100)", Check.ARGUMENT, () -> x.addProof(100));
+        Check.refused("dropProof(0)", Check.INDEX, () -> x.dropProof(0));
+        Check.refused("execute()", Check.ARGUMENT, x::execute);
         Fixtures.type(x, "all;drop 0");
-        Check.refused("execute()", STATE, x::execute);
+        Check.refused("execute()", Check.STATE, x::execute);
         x.save();
         x.writeWells();
         Check.due("undos left", Fixtures.undosLeft(x), 8);
@@ -1254,7 +1248,7 @@ public final class PromisesTest {
     private static void restore() {
         InkPrintery x = Fixtures.busy();
         x.addProof(50);
-        refusedOf(x, "restore()", STATE, x::restore);
+        refusedOf(x, "restore()", Check.STATE, x::restore);
         x.save();
         String saved = Fixtures.state(x);
         for (int time = 0; time < 3; time++) {
@@ -1265,7 +1259,7 @@ public final class PromisesTest {
             x.removeEdition(1);
             Check.due("restore()", x.restore(), 5);
             Check.due("state", Fixtures.state(x), saved);
-            Check.refused("undo()", STATE, x::undo);
+            Check.refused("undo()", Check.STATE, x::undo);
         }
         Fixtures.type(x, "al");
         Check.due("restore()", x.restore(), 5);
