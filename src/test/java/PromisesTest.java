@@ -286,11 +286,13 @@ public final class PromisesTest {
         }
         Check.due("writeEdition(1)", Fixtures.line(x, x.writeEdition(1)), "1c9:0/50");
         refusedOf(x, "addEdition(4, 2) as the eighth", Check.STATE, () -> x.addEdition(4, 2));
+        InkPrintery y = Fixtures.fresh();
         for (int wrong : new int[] {-1, 10, LOWEST, HIGHEST}) {
-            refusedOf(x, "addEdition(" + wrong + ", 1)", Check.ARGUMENT, () -> x.addEdition(wrong, 1));
+            refusedOf(y, "addEdition(" + wrong + ", 1)", Check.ARGUMENT, () -> y.addEdition(wrong, 1));
         }
+        InkPrintery z = Fixtures.fresh();
         for (int wrong : new int[] {0, 51, -1, LOWEST, HIGHEST}) {
-            refusedOf(x, "addEdition(1, " + wrong + ")", Check.ARGUMENT, () -> x.addEdition(1, wrong));
+            refusedOf(z, "addEdition(1, " + wrong + ")", Check.ARGUMENT, () -> z.addEdition(1, wrong));
         }
     }
 
@@ -703,8 +705,9 @@ public final class PromisesTest {
             Check.due("addProof(5)", x.addProof(5), proof);
         }
         refusedOf(x, "addProof(5) as the 13th", Check.STATE, () -> x.addProof(5));
+        InkPrintery y = Fixtures.withProofs(5);
         for (int wrong : new int[] {-1, 100, LOWEST, HIGHEST}) {
-            refusedOf(x, "addProof(" + wrong + ")", Check.ARGUMENT, () -> x.addProof(wrong));
+            refusedOf(y, "addProof(" + wrong + ")", Check.ARGUMENT, () -> y.addProof(wrong));
         }
     }
 
@@ -1026,24 +1029,23 @@ public final class PromisesTest {
     }
 
     private static void executeAllOrNone() {
+        refusedText(Fixtures.busy(), "ink 3 9;paper 9;edition 1 9;remove 0;print 0;all;print 0", 6);
+        refusedText(Fixtures.busy(), "hours 3;proof 3;proof 4;drop 0;drop 1", 4);
+        refusedText(Fixtures.busy(), "ink 0 899;ink 0 1", 1);
+        refusedText(Fixtures.busy(), "ink 3 0", 0);
+        refusedText(Fixtures.busy(), "paper 0", 0);
+        refusedText(Fixtures.busy(), "edition 3 51", 0);
+        refusedText(Fixtures.busy(), "edition 3 0", 0);
+        refusedText(Fixtures.busy(), "remove 5", 0);
+        refusedText(Fixtures.busy(), "print 9", 0);
+        refusedText(Fixtures.busy(), "edition 8 1;print 5", 1);
+        refusedText(Fixtures.busy(), "hours 0", 0);
+        refusedText(Fixtures.busy(), "hours 49", 0);
+        refusedText(Fixtures.busy(), "drop 0", 0);
+        refusedText(Fixtures.busy(), "all;edition 1 1;edition 1 1;edition 1 1", 3);
+        // A text that fails is no modification: the last one is an addEdition of busy().
         InkPrintery x = Fixtures.busy();
-        String before = Fixtures.state(x);
-        refusedText(x, "ink 3 9;paper 9;edition 1 9;remove 0;print 0;all;print 0", 6);
-        refusedText(x, "hours 3;proof 3;proof 4;drop 0;drop 1", 4);
-        refusedText(x, "ink 0 899;ink 0 1", 1);
-        refusedText(x, "ink 3 0", 0);
-        refusedText(x, "paper 0", 0);
-        refusedText(x, "edition 3 51", 0);
-        refusedText(x, "edition 3 0", 0);
-        refusedText(x, "remove 5", 0);
-        refusedText(x, "print 9", 0);
-        refusedText(x, "edition 8 1;print 5", 1);
-        refusedText(x, "hours 0", 0);
-        refusedText(x, "hours 49", 0);
-        refusedText(x, "drop 0", 0);
-        refusedText(x, "all;edition 1 1;edition 1 1;edition 1 1", 3);
-        Check.due("state", Fixtures.state(x), before);
-        // None of them was a modification: the last one is an addEdition of busy().
+        refusedText(x, "hours 3;print 9", 1);
         Check.due("undo()", x.undo(), 7);
         Check.due("editionCount()", x.editionCount(), 4);
     }
@@ -1057,56 +1059,60 @@ public final class PromisesTest {
     }
 
     private static void errorPosition() {
+        malformed("", 0);
+        malformed("x", 0);
+        malformed(";", 0);
+        malformed(" all", 0);
+        malformed("All", 0);
+        malformed("a", 1);
+        malformed("alx", 2);
+        malformed("al", 2);
+        malformed("all ", 3);
+        malformed("all;", 4);
+        malformed("all;;", 4);
+        malformed("all; all", 4);
+        malformed("p", 1);
+        malformed("px", 1);
+        malformed("pr", 2);
+        malformed("pra", 2);
+        malformed("proo", 4);
+        malformed("prink", 4);
+        malformed("papex 1", 4);
+        malformed("paper", 5);
+        malformed("paper1", 5);
+        malformed("paper ", 6);
+        malformed("paper  1", 6);
+        malformed("paper x", 6);
+        malformed("paper 1234", 9);
+        malformed("paper 12x", 8);
+        malformed("paper 12 ", 8);
+        malformed("ink 12", 5);
+        malformed("ink 1", 5);
+        malformed("ink 1;", 5);
+        malformed("ink 1 ", 6);
+        malformed("ink 1 9999", 9);
+        malformed("ink 1 999 ", 9);
+        malformed("edition 1 123", 12);
+        malformed("edition 10 1", 9);
+        malformed("remove 10", 8);
+        malformed("remove -1", 7);
+        malformed("print 1 1", 7);
+        malformed("print 10", 7);
+        malformed("hours 123", 8);
+        malformed("proof 100", 8);
+        malformed("drop 123", 7);
+        malformed("drop 1/", 6);
+        malformed("drop 1:", 6);
+        malformed("hours 1;paper 1;proof 1;remove 7;prin", 37);
+        malformed("all;all;all;all;all;all;all;all;all;all;all;all;all;all;all;", 60);
+        errorPositionLasts();
+    }
+
+    private static void errorPositionLasts() {
         InkPrintery x = Fixtures.fresh();
         Check.refused("errorPosition()", Check.ELEMENT, x::errorPosition);
         Fixtures.execute(x, "all");
         Check.refused("errorPosition()", Check.ELEMENT, x::errorPosition);
-        malformed(x, "", 0);
-        malformed(x, "x", 0);
-        malformed(x, ";", 0);
-        malformed(x, " all", 0);
-        malformed(x, "All", 0);
-        malformed(x, "a", 1);
-        malformed(x, "alx", 2);
-        malformed(x, "al", 2);
-        malformed(x, "all ", 3);
-        malformed(x, "all;", 4);
-        malformed(x, "all;;", 4);
-        malformed(x, "all; all", 4);
-        malformed(x, "p", 1);
-        malformed(x, "px", 1);
-        malformed(x, "pr", 2);
-        malformed(x, "pra", 2);
-        malformed(x, "proo", 4);
-        malformed(x, "prink", 4);
-        malformed(x, "papex 1", 4);
-        malformed(x, "paper", 5);
-        malformed(x, "paper1", 5);
-        malformed(x, "paper ", 6);
-        malformed(x, "paper  1", 6);
-        malformed(x, "paper x", 6);
-        malformed(x, "paper 1234", 9);
-        malformed(x, "paper 12x", 8);
-        malformed(x, "paper 12 ", 8);
-        malformed(x, "ink 12", 5);
-        malformed(x, "ink 1", 5);
-        malformed(x, "ink 1;", 5);
-        malformed(x, "ink 1 ", 6);
-        malformed(x, "ink 1 9999", 9);
-        malformed(x, "ink 1 999 ", 9);
-        malformed(x, "edition 1 123", 12);
-        malformed(x, "edition 10 1", 9);
-        malformed(x, "remove 10", 8);
-        malformed(x, "remove -1", 7);
-        malformed(x, "print 1 1", 7);
-        malformed(x, "print 10", 7);
-        malformed(x, "hours 123", 8);
-        malformed(x, "proof 100", 8);
-        malformed(x, "drop 123", 7);
-        malformed(x, "drop 1/", 6);
-        malformed(x, "drop 1:", 6);
-        malformed(x, "hours 1;paper 1;proof 1;remove 7;prin", 37);
-        malformed(x, "all;all;all;all;all;all;all;all;all;all;all;all;all;all;all;", 60);
         // A malformed text that would fail too is malformed.
         malformed(x, "print 0;x", 8);
         Check.refused("failedCommand()", Check.ELEMENT, x::failedCommand);
@@ -1116,6 +1122,10 @@ public final class PromisesTest {
         x.undo();
         x.restore();
         Check.due("errorPosition() after undo and restore", x.errorPosition(), 8);
+    }
+
+    private static void malformed(String text, int position) {
+        malformed(Fixtures.fresh(), text, position);
     }
 
     private static void malformed(InkPrintery x, String text, int position) {
