@@ -126,6 +126,14 @@ public final class AccountBoundariesTest {
             meanDue(50.0, 50, 50, 50, 50, 50, 50, 50);
             meanDue(8.0 / 7.0, 1, 1, 1, 1, 1, 1, 2);
         });
+        Check.test("promise 41: of the editions that are left", () -> {
+            InkPrintery x = runs(10, 20, 30, 40, 50, 1, 2).get();
+            double[] due = {151.0 / 6.0, 30.0, 25.0, 20.0, 15.0, 10.0};
+            for (int left = 6; left >= 1; left--) {
+                x.removeEdition(left);
+                Check.due("meanRun() of " + left, x.meanRun(), due[6 - left]);
+            }
+        });
         Check.test("promise 41: of the runs, printed or not, in double", () -> {
             Supplier<InkPrintery> made = Fixtures.made(x -> {
                 x.addInk(0, 9);

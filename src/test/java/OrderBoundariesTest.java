@@ -79,6 +79,35 @@ public final class OrderBoundariesTest {
             orderDue("6012345", 9, 0, 9, 9, 9, 9, 9, 9, 8);
             orderDue("0123465", 9, 0, 1, 2, 3, 4, 5, 9, 8);
         });
+        Check.test("best order: after each edition that is added, removed or printed", () -> {
+            InkPrintery x = Fixtures.fresh();
+            int[] colours = {8, 3, 9, 2, 7, 5, 6};
+            String[] grown = {"0", "10", "102", "3102", "31402", "315402", "3156402"};
+            String[] shrunk = {"", "0", "10", "102", "3102", "31402", "315402"};
+            x.addPaper(99);
+            for (int edition = 0; edition < 7; edition++) {
+                x.addEdition(colours[edition], 1);
+                Check.due("order of " + edition, order(x), grown[edition]);
+            }
+            for (int edition = 6; edition >= 0; edition--) {
+                x.removeEdition(edition);
+                Check.due("order without " + edition, order(x), shrunk[edition]);
+            }
+            for (int colour : colours) {
+                x.addInk(colour, 1);
+                x.addEdition(colour, 1);
+            }
+            printEach(x);
+        });
+        Check.test("best order: what was the best before does not count", () -> {
+            InkPrintery x = press(9, 7, 8, 0).get();
+            Check.due("fewestMinutes()", x.fewestMinutes(), 3 + 3 + 15);
+            Check.due("order", order(x), "102");
+            x.removeEdition(2);
+            // 7, 8 takes 5 + 1, and 8, 7 takes 3 + 3: as many, so the lowest number comes first.
+            Check.due("fewestMinutes()", x.fewestMinutes(), 6);
+            Check.due("order without the colour 0", order(x), "01");
+        });
         Check.test("best order: the editions that are not complete", () -> {
             InkPrintery x = Fixtures.made(y -> complete(y, 7)).get();
             x.addEdition(7, 1);
@@ -88,6 +117,18 @@ public final class OrderBoundariesTest {
             x.print(1);
             Check.due("order of complete ones", order(x), "");
         });
+    }
+
+    /** Prints what comes first, again and again: what is left keeps its order. */
+    private static void printEach(InkPrintery x) {
+        String due = "3156402";
+        for (int printed = 0; printed < 7; printed++) {
+            Check.due("order after " + printed + " printed", order(x), due.substring(printed));
+            Check.due("fewestMinutes()", x.fewestMinutes(), x.minutesByOrders());
+            x.print(x.editionAt(0));
+        }
+        Check.due("order when all is printed", order(x), "");
+        Check.due("minutes()", x.minutes(), 9 + 7);
     }
 
     /** An edition of this colour that is complete. */
