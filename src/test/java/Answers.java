@@ -76,7 +76,7 @@ final class Answers {
     }
 
     private void askUndos() {
-        while (ask("undo", 0)) {
+        while (answers.size() <= MOST_CALLS && ask("undo", 0)) {
             for (String name : IN_SHORT) {
                 ask(name, 0);
             }

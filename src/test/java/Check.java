@@ -11,12 +11,32 @@ final class Check {
     static final Class<UnsupportedOperationException> UNSUPPORTED =
             UnsupportedOperationException.class;
 
+    // Far more than any test class takes on a slow machine.
+    private static final long MOST_MILLISECONDS = 300_000;
+
     private static int tests = 0;
     private static int failedTests = 0;
     private static int wrong = 0;
-    private static String current = "";
+    private static volatile String current = "";
+
+    static {
+        Thread watch = new Thread(Check::failLate);
+        watch.setDaemon(true);
+        watch.start();
+    }
 
     private Check() {
+    }
+
+    /** A call that does not end would keep .ci/run from ending: such a test has failed, too. */
+    private static void failLate() {
+        try {
+            Thread.sleep(MOST_MILLISECONDS);
+        } catch (InterruptedException e) {
+            return;
+        }
+        System.out.println(current + ": does not end");
+        Runtime.getRuntime().halt(1);
     }
 
     static void test(String name, Runnable body) {

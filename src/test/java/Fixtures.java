@@ -4,6 +4,7 @@ import java.util.function.Supplier;
 /** Runs of calls that several tests share. */
 final class Fixtures {
     static final int COLOURS = 10;
+    static final int MOST_CALLS = 512;
 
     private Fixtures() {
     }
@@ -145,16 +146,15 @@ final class Fixtures {
         return state.toString();
     }
 
-    /** How many modifications can be undone; undoes them all. */
+    /** How many modifications can be undone; undoes them all, but no more than an object's calls. */
     static int undosLeft(InkPrintery x) {
-        int undone = 0;
-        while (true) {
+        for (int undone = 0; undone < MOST_CALLS; undone++) {
             try {
                 x.undo();
             } catch (IllegalStateException e) {
                 return undone;
             }
-            undone++;
         }
+        return MOST_CALLS;
     }
 }

@@ -539,15 +539,14 @@ public final class PromisesTest {
 
     private static String order(InkPrintery x) {
         StringBuilder order = new StringBuilder();
-        int position = 0;
-        while (true) {
+        for (int position = 0; position <= 7; position++) {
             try {
                 order.append(x.editionAt(position));
             } catch (NoSuchElementException e) {
                 return order.toString();
             }
-            position++;
         }
+        return order + " without an end";
     }
 
     private static void editionAt() {
